@@ -14,7 +14,6 @@ public final class MazeForms {
     private static final int BELOW = 2;
     private static final int LEFT = 3;
 
-    private static final int LONGEST_EDGE = 12;
     private static final int MOST_LOOPS = 200;
     private static final long[] PRIMES = {2147483647L, 1000000007L, 998244353L};
 
@@ -25,7 +24,7 @@ public final class MazeForms {
     private final TreeCount treeCount;
 
     public MazeForms(int width, int height, int seed) {
-        grid = new Grid(heldEdge(width), heldEdge(height));
+        grid = new Grid(width, height);
         joined = new Joined(grid);
         Flood flood = new Flood(grid);
         maker = new Maker(grid, new Chance(seed), joined, flood);
@@ -100,10 +99,6 @@ public final class MazeForms {
         return treeCount.residue(PRIMES[prime]);
     }
 
-    private static int heldEdge(int edge) {
-        return Math.max(1, Math.min(LONGEST_EDGE, edge));
-    }
-
     /** The numbers that decide, one after the other, from the seed on. */
     private static final class Chance {
         private static final long FACTOR = 6364136223846793005L;
@@ -127,6 +122,8 @@ public final class MazeForms {
 
     /** The cells, their masks and their doors. */
     private static final class Grid {
+        private static final int LONGEST_EDGE = 12;
+
         private final int width;
         private final int height;
         private final boolean[] masked;
@@ -137,13 +134,12 @@ public final class MazeForms {
         private int doorCount;
         private int edition;
 
-        Grid(int width, int height) {
-            this.width = width;
-            this.height = height;
-            int cells = width * height;
+        Grid(int askedWidth, int askedHeight) {
+            width = heldEdge(askedWidth);
+            height = heldEdge(askedHeight);
             int mostDoors = (width - 1) * height + width * (height - 1);
-            masked = new boolean[cells];
-            doorOnSide = new int[SIDES * cells];
+            masked = new boolean[width * height];
+            doorOnSide = new int[SIDES * width * height];
             lesserCell = new int[mostDoors];
             greaterCell = new int[mostDoors];
             doorOpen = new boolean[mostDoors];
@@ -245,7 +241,10 @@ public final class MazeForms {
         }
 
         int otherCell(int door, int cell) {
-            return lesserCell(door) == cell ? greaterCell(door) : lesserCell(door);
+            if (!isDoor(door)) {
+                return NONE;
+            }
+            return lesserCell[door] == cell ? greaterCell[door] : lesserCell[door];
         }
 
         boolean setDoor(int door, boolean on) {
@@ -261,18 +260,22 @@ public final class MazeForms {
             if (!isCell(cell) || masked[cell] == on) {
                 return false;
             }
-            // Before the doors get other numbers, while the open ones are still found by theirs.
             closeDoors();
             masked[cell] = on;
-            edition++;
             numberDoors();
             return true;
         }
 
+        /** Counts as a change even where no door was open: who closes all doors begins anew. */
         void closeDoors() {
-            for (int door = 0; door < doorCount; door++) {
-                setDoor(door, false);
+            for (int door = 0; door < doorOpen.length; door++) {
+                doorOpen[door] = false;
             }
+            edition++;
+        }
+
+        private static int heldEdge(int edge) {
+            return Math.max(1, Math.min(LONGEST_EDGE, edge));
         }
 
         private void numberDoors() {

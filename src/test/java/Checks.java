@@ -19,6 +19,14 @@ final class Checks {
         }
     }
 
+    void due(String call, String got, String want) {
+        checked++;
+        if (!got.equals(want)) {
+            wrong++;
+            System.out.println(call + " gave " + got + ", due is " + want);
+        }
+    }
+
     int wrong() {
         return wrong;
     }

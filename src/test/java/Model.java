@@ -82,9 +82,8 @@ final class Model {
     }
 
     private void closeAll() {
-        for (List<Integer> door : new ArrayList<>(open)) {
-            change(door, false);
-        }
+        open.clear();
+        path = null;
     }
 
     boolean mask(int x, int y, boolean on) {
@@ -93,7 +92,6 @@ final class Model {
             return false;
         }
         closeAll();
-        path = null;
         if (on) {
             masked.add(cell);
         } else {

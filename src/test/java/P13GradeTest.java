@@ -1,0 +1,77 @@
+/** Promise 13: the grade of a path. */
+public final class P13GradeTest {
+    private static final Checks CHECKS = new Checks();
+
+    public static void main(String[] args) {
+        alongARow();
+        besideThePath();
+        onAnOpenGrid();
+        nothingIsFound();
+        CHECKS.end();
+    }
+
+    private static void gradeIs(MazeForms maze, int from, int to, long due) {
+        maze.path(from, to);
+        CHECKS.due("grade() from " + from + " to " + to, maze.grade(), due);
+    }
+
+    private static void alongARow() {
+        MazeForms maze = new MazeForms(5, 1, 0);
+        maze.make(0);
+        gradeIs(maze, 0, 4, 0);
+        gradeIs(maze, 2, 2, 0);
+        // At the beginning there is a door behind; the last cell does not count.
+        gradeIs(maze, 1, 4, 1);
+        gradeIs(maze, 1, 3, 1);
+        gradeIs(maze, 3, 0, 1);
+        gradeIs(maze, 0, 3, 0);
+    }
+
+    private static void besideThePath() {
+        // Along the upper row of 4 x 2, with doors down from its cells one after the other.
+        int[] down = {1, 3, 5, 6};
+        int[] due = {1, 2, 3, 0};
+        for (int i = 0; i < 4; i++) {
+            MazeForms maze = new MazeForms(4, 2, 0);
+            Mazes.openThese(maze, 0, 2, 4, down[i]);
+            gradeIs(maze, 0, 3, due[i]);
+        }
+        MazeForms all = new MazeForms(4, 2, 0);
+        Mazes.openThese(all, 0, 2, 4, 1, 3, 5, 6);
+        gradeIs(all, 0, 3, 6);
+        gradeIs(all, 3, 0, 6);
+        gradeIs(all, 0, 4, 1);
+    }
+
+    private static void onAnOpenGrid() {
+        MazeForms maze = new MazeForms(3, 3, 0);
+        Mazes.openAll(maze);
+        // By 0, 1, 2, 5 to 8: 1 + 1 * 2 + 0 * 3 + 1 * 4.
+        gradeIs(maze, 0, 8, 7);
+        // By 4 to 1: three doors of the middle one.
+        gradeIs(maze, 4, 1, 3);
+        // By 3, 4 to 5: 2 + 2 * 2.
+        gradeIs(maze, 3, 5, 6);
+    }
+
+    private static void nothingIsFound() {
+        MazeForms maze = new MazeForms(3, 1, 0);
+        CHECKS.due("grade() at first", maze.grade(), -1);
+        maze.path(0, 2);
+        CHECKS.due("grade() without a path", maze.grade(), -1);
+        maze.make(0);
+        CHECKS.due("grade() after making", maze.grade(), -1);
+        gradeIs(maze, 1, 2, 1);
+        CHECKS.due("grade() again", maze.grade(), 1);
+        gradeIs(maze, 1, 3, -1);
+        gradeIs(maze, 1, 2, 1);
+        maze.set(0, false);
+        CHECKS.due("grade() after a door was closed", maze.grade(), -1);
+        maze.set(0, true);
+        CHECKS.due("grade() after it was opened again", maze.grade(), -1);
+        gradeIs(maze, 1, 0, 1);
+        maze.mask(2, 0, true);
+        CHECKS.due("grade() after a mask", maze.grade(), -1);
+        gradeIs(maze, 2, 2, -1);
+    }
+}
