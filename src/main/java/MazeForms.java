@@ -460,7 +460,7 @@ public final class MazeForms {
         private static final int WALKED = 3;
         private static final int COMBED = 4;
 
-        /** Far above the some fourteen thousand steps that the slowest grid makes one expect. */
+        /** Far above what the slowest grids need: some ten thousand steps in the mean. */
         private static final int LONGEST_WALK = 1000000;
 
         private final Grid grid;
@@ -808,23 +808,23 @@ public final class MazeForms {
         }
 
         private void addTo(int row, int column, long summand) {
-            int index = indexOf(row, column);
-            if (index != NONE) {
-                entries[index] += summand;
+            int slot = slotOf(row, column);
+            if (slot != NONE) {
+                entries[slot] += summand;
             }
         }
 
         /** NONE outside of the band and of the matrix, where the last cell is. */
-        private int indexOf(int row, int column) {
+        private int slotOf(int row, int column) {
             boolean inside = row >= 0 && row < size && column >= 0 && column < size;
             boolean held = column - row >= -band && column - row <= 2 * band;
-            int index = row * stride + column - row + band;
-            return inside && held && index >= 0 && index < entries.length ? index : NONE;
+            int slot = row * stride + column - row + band;
+            return inside && held && slot >= 0 && slot < entries.length ? slot : NONE;
         }
 
         private long entry(int row, int column) {
-            int index = indexOf(row, column);
-            return index == NONE ? 0L : entries[index];
+            int slot = slotOf(row, column);
+            return slot == NONE ? 0L : entries[slot];
         }
 
         private long determinant() {
@@ -863,12 +863,12 @@ public final class MazeForms {
 
         private void exchangeRows(int row, int other) {
             for (int column = row; column <= lastColumn(row); column++) {
-                int index = indexOf(row, column);
-                int otherIndex = indexOf(other, column);
-                if (index != NONE && otherIndex != NONE) {
-                    long kept = entries[index];
-                    entries[index] = entries[otherIndex];
-                    entries[otherIndex] = kept;
+                int slot = slotOf(row, column);
+                int otherSlot = slotOf(other, column);
+                if (slot != NONE && otherSlot != NONE) {
+                    long kept = entries[slot];
+                    entries[slot] = entries[otherSlot];
+                    entries[otherSlot] = kept;
                 }
             }
         }
@@ -885,8 +885,8 @@ public final class MazeForms {
 
         private void addRow(int from, int to, long factor) {
             int last = lastColumn(from);
-            int source = indexOf(from, from);
-            int target = indexOf(to, from);
+            int source = slotOf(from, from);
+            int target = slotOf(to, from);
             if (source == NONE || target == NONE) {
                 return;
             }
