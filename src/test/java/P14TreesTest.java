@@ -69,19 +69,26 @@ public final class P14TreesTest {
     }
 
     /**
-     * A grid, found by search, whose matrix without the cells after the 36th free one has a determinant
-     * that 1000000007 divides: to go through the matrix in its own order would end there with 0.
+     * Grids, found by search, whose matrices have on the way a determinant that one of the primes
+     * divides: to go through them in their own order would end there with 0.
      */
     private static void residuesInBetweenMayBeZero() {
-        String[] rows = {"#...#", "#....", ".....", "..#..", ".....", ".#.#.",
-            ".#.#.", ".....", ".....", ".....", "...#.", "...#."};
-        Model model = new Model(5, 12, 0);
-        for (int cell = 0; cell < 60; cell++) {
-            if (rows[cell / 5].charAt(cell % 5) == '#') {
-                model.mask(cell % 5, cell / 5, true);
+        wantsRowsExchanged("#...#", "#....", ".....", "..#..", ".....", ".#.#.",
+            ".#.#.", ".....", ".....", ".....", "...#.", "...#.");
+        wantsRowsExchanged("......", "......", "...#.#", "......", "...#..", "......",
+            "....#.", "......", ".....#", ".#....", ".....#", "......");
+        wantsRowsExchanged("......", "......", ".#...#", "...#..", ".#....", "#.....",
+            "..#...", "......", ".....#", "......", "......", "......");
+    }
+
+    private static void wantsRowsExchanged(String... rows) {
+        Model model = new Model(rows[0].length(), rows.length, 0);
+        for (int y = 0; y < rows.length; y++) {
+            for (int x = 0; x < rows[y].length(); x++) {
+                model.mask(x, y, rows[y].charAt(x) == '#');
             }
         }
-        treesAre("a grid that wants rows exchanged", Mazes.masked(0, rows), model.exactTrees().toString());
+        treesAre(String.join("/", rows), Mazes.masked(0, rows), model.exactTrees().toString());
     }
 
     private static void doorsStayAsTheyAre() {
