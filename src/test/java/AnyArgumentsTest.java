@@ -1,4 +1,7 @@
-/** No call throws, for any arguments in any state, and alike calls on alike objects answer alike. */
+/**
+ * No call throws, for any arguments in any state, and alike calls on alike objects answer alike. That
+ * is asked of all calls, so here an object is used for more than the 512 that the document speaks of.
+ */
 public final class AnyArgumentsTest {
     private static final int[] NUMBERS = {Integer.MIN_VALUE, Integer.MIN_VALUE + 1, -145, -13, -12, -1, 0, 1, 2, 3, 4,
         5, 11, 12, 13, 143, 144, 145, 200, 201, 263, 264, 265, 1 << 30, Integer.MAX_VALUE - 1, Integer.MAX_VALUE};

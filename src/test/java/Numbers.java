@@ -12,6 +12,13 @@ final class Numbers {
         x = BigInteger.valueOf(seed).mod(BITS_64);
     }
 
+    /** The number below n that comes when so many were drawn before. */
+    static int after(int drawn, int seed, int n) {
+        Numbers numbers = new Numbers(seed);
+        numbers.skip(drawn);
+        return numbers.below(n);
+    }
+
     int below(int n) {
         x = FACTOR.multiply(x).add(SUMMAND).mod(BITS_64);
         return x.shiftRight(33).mod(BigInteger.valueOf(n)).intValueExact();

@@ -5,6 +5,8 @@ public final class P01NewObjectTest {
     public static void main(String[] args) {
         edgesAreHeld();
         cellsReachToTheEdges();
+        whatIsBelowCountsAsOne();
+        whatIsAboveCountsAsTwelve();
         nothingIsMaskedOrOpen();
         seedsDecide();
         CHECKS.end();
@@ -37,6 +39,40 @@ public final class P01NewObjectTest {
         CHECKS.due("mask(1, 0, true) of 1 x 12", high.mask(1, 0, true), false);
     }
 
+    private static void whatIsBelowCountsAsOne() {
+        for (int edge : new int[] {0, -1, -12, -144, Integer.MIN_VALUE}) {
+            countsAs(edge, 7, 1, 7);
+            countsAs(7, edge, 7, 1);
+            countsAs(edge, edge, 1, 1);
+        }
+    }
+
+    private static void whatIsAboveCountsAsTwelve() {
+        for (int edge : new int[] {13, 14, 24, 144, 1 << 16, Integer.MAX_VALUE}) {
+            countsAs(edge, 7, 12, 7);
+            countsAs(7, edge, 7, 12);
+            countsAs(edge, edge, 12, 12);
+            countsAs(edge, -edge, 12, 1);
+            countsAs(-edge, edge, 1, 12);
+        }
+    }
+
+    /** Seen from all sides: the doors that are made, the numbers of the cells, how many trees there are. */
+    private static void countsAs(int width, int height, int w, int h) {
+        MazeForms maze = new MazeForms(width, height, 6);
+        MazeForms due = new MazeForms(w, h, 6);
+        String what = width + ", " + height + ": ";
+        CHECKS.due(what + "doors()", maze.doors(), due.doors());
+        CHECKS.due(what + "parts()", maze.parts(), w * h);
+        CHECKS.due(what + "trees(0)", maze.trees(0), due.trees(0));
+        CHECKS.due(what + "make(1)", maze.make(1), w * h - 1);
+        due.make(1);
+        CHECKS.due(what + "its maze", Mazes.picture(maze, 12, 12), Mazes.picture(due, 12, 12));
+        int last = w * h - 1;
+        CHECKS.due(what + "path(0, " + last + ")", maze.path(0, last), due.path(0, last));
+        CHECKS.due(what + "path(0, " + (last + 1) + ")", maze.path(0, last + 1), -1);
+    }
+
     private static void nothingIsMaskedOrOpen() {
         MazeForms maze = new MazeForms(7, 5, 3);
         CHECKS.due("open doors of a new object", Mazes.openDoors(maze, 7, 5), 0);
@@ -51,15 +87,17 @@ public final class P01NewObjectTest {
         CHECKS.due("grade() of a new object", maze.grade(), -1);
     }
 
+    private static String madeFrom(int seed) {
+        MazeForms maze = new MazeForms(12, 12, seed);
+        maze.make(0);
+        return Mazes.picture(maze, 12, 12);
+    }
+
     private static void seedsDecide() {
         int[] seeds = {0, 1, -1, 99, Integer.MIN_VALUE, Integer.MAX_VALUE};
         for (int seed : seeds) {
-            MazeForms maze = new MazeForms(12, 12, seed);
-            maze.make(0);
             for (int other : seeds) {
-                MazeForms second = new MazeForms(12, 12, other);
-                second.make(0);
-                boolean alike = Mazes.picture(maze, 12, 12).equals(Mazes.picture(second, 12, 12));
+                boolean alike = madeFrom(seed).equals(madeFrom(other));
                 CHECKS.due("seeds " + seed + " and " + other + " make the same", alike, seed == other);
             }
         }

@@ -5,6 +5,8 @@ public final class P02MaskTest {
     public static void main(String[] args) {
         masksOnceAndBack();
         thereIsNoSuchCell();
+        cellsDoNotWrapAround();
+        allCellsCanBeMasked();
         doorsGoAndComeBack();
         doorsAreClosed();
         falseChangesNothing();
@@ -32,6 +34,40 @@ public final class P02MaskTest {
         }
         CHECKS.due("parts()", maze.parts(), 6);
         CHECKS.due("doors()", maze.doors(), 7);
+    }
+
+    /** Of a cell that there is not, x + W y may be the number of one that there is. */
+    private static void cellsDoNotWrapAround() {
+        int[][] none = {{3, 0, 3}, {-1, 1, 2}, {4, 0, 4}, {-3, 1, 0}, {5, -1, 2}, {-3, 2, 3}};
+        for (int[] place : none) {
+            MazeForms maze = new MazeForms(3, 2, 0);
+            String call = "mask(" + place[0] + ", " + place[1] + ", true)";
+            CHECKS.due(call, maze.mask(place[0], place[1], true), false);
+            CHECKS.due("cell " + place[2] + " after " + call, maze.path(place[2], place[2]), 0);
+            CHECKS.due("doors() after " + call, maze.doors(), 7);
+        }
+    }
+
+    /** From the full grid to one without cells, and back. */
+    private static void allCellsCanBeMasked() {
+        MazeForms maze = new MazeForms(12, 12, 0);
+        for (int cell = 0; cell < 144; cell++) {
+            CHECKS.due("masking cell " + cell, maze.mask(cell % 12, cell / 12, true), true);
+            CHECKS.due("cells that are left", maze.ends(0), 143 - cell);
+        }
+        CHECKS.due("doors() without cells", maze.doors(), 0);
+        CHECKS.due("masking when all are masked", maze.mask(0, 0, true), false);
+        CHECKS.due("masking the last one when all are masked", maze.mask(11, 11, true), false);
+        for (int cell = 143; cell >= 0; cell--) {
+            CHECKS.due("unmasking cell " + cell, maze.mask(cell % 12, cell / 12, false), true);
+        }
+        CHECKS.due("unmasking when none is masked", maze.mask(11, 11, false), false);
+        CHECKS.due("doors() of all cells", maze.doors(), 264);
+        MazeForms one = new MazeForms(1, 1, 0);
+        CHECKS.due("unmasking the only cell", one.mask(0, 0, false), false);
+        CHECKS.due("masking the only cell", one.mask(0, 0, true), true);
+        CHECKS.due("masking it again", one.mask(0, 0, true), false);
+        CHECKS.due("unmasking it then", one.mask(0, 0, false), true);
     }
 
     private static void doorsGoAndComeBack() {

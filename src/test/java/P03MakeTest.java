@@ -11,6 +11,7 @@ public final class P03MakeTest {
         combedDrawsForOneDoorToo();
         wrongWaysDoNothing();
         withoutCells();
+        withoutCellsNoNumberIsDrawn();
         longWalksComeHome();
         CHECKS.end();
     }
@@ -92,18 +93,8 @@ public final class P03MakeTest {
     }
 
     private static void nextNumberIs(MazeForms maze, int seed, int drawn, String what) {
-        Numbers numbers = new Numbers(seed);
-        numbers.skip(drawn);
-        int doors = maze.doors();
-        for (int door = 0; door < doors; door++) {
-            maze.set(door, false);
-        }
-        maze.loops(1);
-        int due = numbers.below(doors);
-        for (int door = 0; door < doors; door++) {
-            boolean wasOpen = maze.set(door, false);
-            CHECKS.due(what + ", seed " + seed + ": door " + door + " is next", wasOpen, door == due);
-        }
+        int due = Numbers.after(drawn, seed, maze.doors());
+        CHECKS.due(what + ", seed " + seed + ": the next door", Mazes.drawnDoor(maze), due);
     }
 
     private static void combedDrawsForOneDoorToo() {
@@ -150,6 +141,17 @@ public final class P03MakeTest {
         maze.mask(1, 1, false);
         for (int way = 0; way <= 4; way++) {
             CHECKS.due("make(" + way + ") of one cell", maze.make(way), 0);
+        }
+    }
+
+    private static void withoutCellsNoNumberIsDrawn() {
+        for (int seed = 0; seed < 30; seed++) {
+            MazeForms maze = Mazes.masked(seed, "###", "###", "###");
+            for (int way = -1; way <= 5; way++) {
+                maze.make(way);
+            }
+            Mazes.unmaskAll(maze, 3, 3);
+            nextNumberIs(maze, seed, 0, "made without cells");
         }
     }
 

@@ -7,6 +7,8 @@ public final class P06SetTest {
         numbersFollowTheCells();
         numbersPassOverMasks();
         thereIsNoSuchDoor();
+        theLastDoorIsThere();
+        falseChangesNothing();
         madeDoorsAreSetToo();
         CHECKS.end();
     }
@@ -63,6 +65,34 @@ public final class P06SetTest {
         CHECKS.due("set(5, false) of five doors", maze.set(5, false), false);
         CHECKS.due("set(4, true) of five doors", maze.set(4, true), true);
         CHECKS.due("set(0, true) without doors", new MazeForms(1, 1, 0).set(0, true), false);
+    }
+
+    private static void theLastDoorIsThere() {
+        int[][] edges = {{12, 12, 264}, {12, 1, 11}, {1, 12, 11}, {2, 1, 1}, {1, 2, 1}, {2, 2, 4}};
+        for (int[] edge : edges) {
+            MazeForms maze = new MazeForms(edge[0], edge[1], 0);
+            String what = " of " + edge[0] + " x " + edge[1];
+            int last = edge[2] - 1;
+            CHECKS.due("opening the last door" + what, maze.set(last, true), true);
+            CHECKS.due("opening the one after it" + what, maze.set(last + 1, true), false);
+            CHECKS.due("open doors" + what, Mazes.openDoors(maze, edge[0], edge[1]), 1);
+            CHECKS.due("closing the one after it" + what, maze.set(last + 1, false), false);
+            CHECKS.due("closing the last door" + what, maze.set(last, false), true);
+        }
+        CHECKS.due("set(0, true) without cells", Mazes.masked(0, "##").set(0, true), false);
+        CHECKS.due("set(0, false) without cells", Mazes.masked(0, "##").set(0, false), false);
+    }
+
+    private static void falseChangesNothing() {
+        MazeForms maze = new MazeForms(3, 2, 0);
+        Mazes.openThese(maze, 0, 2);
+        maze.path(0, 2);
+        maze.set(0, true);
+        maze.set(1, false);
+        maze.set(-1, true);
+        maze.set(7, true);
+        CHECKS.due("the doors after sets that change nothing", Mazes.picture(maze, 3, 2), "-.-.../......");
+        CHECKS.due("at(2) after sets that change nothing", maze.at(2), 2);
     }
 
     private static void madeDoorsAreSetToo() {

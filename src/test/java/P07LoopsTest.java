@@ -10,6 +10,8 @@ public final class P07LoopsTest {
         opensSoManyAsThereAre();
         wrongNumbersDoNothing();
         noNumberIsDrawnForNone();
+        numbersEndWithTheClosedDoors();
+        from0To200();
         CHECKS.end();
     }
 
@@ -40,9 +42,7 @@ public final class P07LoopsTest {
         MazeForms maze = new MazeForms(12, 12, 1);
         CHECKS.due("loops(0)", maze.loops(0), 0);
         CHECKS.due("loops(1)", maze.loops(1), 1);
-        CHECKS.due("open doors", Mazes.openDoors(maze, 12, 12), 1);
         CHECKS.due("loops(200)", maze.loops(200), 200);
-        CHECKS.due("open doors", Mazes.openDoors(maze, 12, 12), 201);
         CHECKS.due("loops(200) of 63", maze.loops(200), 63);
         CHECKS.due("loops(200) of none", maze.loops(200), 0);
         CHECKS.due("open doors in the end", Mazes.openDoors(maze, 12, 12), 264);
@@ -71,6 +71,25 @@ public final class P07LoopsTest {
         CHECKS.due("no number was drawn", Mazes.picture(maze, 4, 4), Mazes.picture(twin, 4, 4));
         CHECKS.due("loops(-1) without doors", new MazeForms(1, 1, 0).loops(-1), -1);
         CHECKS.due("loops(201) without doors", new MazeForms(1, 1, 0).loops(201), -1);
+    }
+
+    private static void numbersEndWithTheClosedDoors() {
+        for (int seed = 0; seed < 30; seed++) {
+            MazeForms maze = new MazeForms(3, 3, seed);
+            Mazes.openAll(maze);
+            Mazes.closeThese(maze, 1, 6, 11);
+            CHECKS.due("loops(200) of three closed doors", maze.loops(200), 3);
+            CHECKS.due("the next door, seed " + seed, Mazes.drawnDoor(maze), Numbers.after(3, seed, 12));
+        }
+    }
+
+    private static void from0To200() {
+        for (int n = -3; n <= 203; n++) {
+            MazeForms maze = new MazeForms(12, 12, n);
+            int due = n < 0 || n > 200 ? -1 : n;
+            CHECKS.due("loops(" + n + ")", maze.loops(n), due);
+            CHECKS.due("open doors after loops(" + n + ")", Mazes.openDoors(maze, 12, 12), Math.max(0, due));
+        }
     }
 
     private static void noNumberIsDrawnForNone() {

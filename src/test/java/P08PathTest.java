@@ -9,13 +9,16 @@ public final class P08PathTest {
         thereIsNone();
         wrongCells();
         nothingIsFoundThen();
+        toTheCellItself();
+        withoutCells();
+        theLongest();
         CHECKS.end();
     }
 
     private static void alongOpenDoors() {
-        MazeForms maze = new MazeForms(12, 12, 0);
-        Mazes.openAll(maze);
         for (int from = 0; from < 144; from += 7) {
+            MazeForms maze = new MazeForms(12, 12, 0);
+            Mazes.openAll(maze);
             for (int to = 0; to < 144; to += 5) {
                 int due = Math.abs(from % 12 - to % 12) + Math.abs(from / 12 - to / 12);
                 CHECKS.due("path(" + from + ", " + to + ")", maze.path(from, to), due);
@@ -70,6 +73,43 @@ public final class P08PathTest {
             CHECKS.due("path(" + cell + ", " + cell + ")", maze.path(cell, cell), -1);
         }
         CHECKS.due("path(0, 8) after them", maze.path(0, 8), 4);
+    }
+
+    private static void toTheCellItself() {
+        MazeForms maze = Mazes.masked(0, ".#", "..");
+        CHECKS.due("path(0, 0) by closed doors", maze.path(0, 0), 0);
+        CHECKS.due("at(0) of it", maze.at(0), 0);
+        CHECKS.due("at(1) of it", maze.at(1), -1);
+        CHECKS.due("path(3, 3) of the last cell", maze.path(3, 3), 0);
+        CHECKS.due("at(0) of it", maze.at(0), 3);
+        CHECKS.due("path(1, 1) of a masked one", maze.path(1, 1), -1);
+        CHECKS.due("at(0) of it", maze.at(0), -1);
+        CHECKS.due("path(4, 4) behind the last one", maze.path(4, 4), -1);
+        CHECKS.due("path(-1, -1) before the first one", maze.path(-1, -1), -1);
+        MazeForms one = new MazeForms(1, 1, 0);
+        CHECKS.due("path(0, 0) of one cell", one.path(0, 0), 0);
+        CHECKS.due("path(0, 1) of one cell", one.path(0, 1), -1);
+        CHECKS.due("path(1, 0) of one cell", one.path(1, 0), -1);
+    }
+
+    private static void withoutCells() {
+        MazeForms maze = Mazes.masked(0, "##", "##");
+        for (int from = -1; from <= 4; from++) {
+            for (int to = -1; to <= 4; to++) {
+                CHECKS.due("path(" + from + ", " + to + ") without cells", maze.path(from, to), -1);
+            }
+        }
+        CHECKS.due("at(0) without cells", maze.at(0), -1);
+        CHECKS.due("grade() without cells", maze.grade(), -1);
+    }
+
+    private static void theLongest() {
+        MazeForms maze = Mazes.serpent();
+        CHECKS.due("path(0, 132) through all cells", maze.path(0, 132), 143);
+        CHECKS.due("path(132, 0) back", maze.path(132, 0), 143);
+        maze.set(131, false);
+        CHECKS.due("isTree() without a door", maze.isTree(), false);
+        CHECKS.due("path(0, 132) without a door", maze.path(0, 132), -1);
     }
 
     private static void nothingIsFoundThen() {

@@ -6,9 +6,11 @@ public final class P09AtTest {
         lesserSidesFirst();
         theFirstCellThatDiffersDecides();
         wrongPlaces();
+        theLongest();
         theLatestCounts();
         changesEndIt();
         whatChangesNothingLeavesIt();
+        foundAgainAfterAChange();
         CHECKS.end();
     }
 
@@ -68,6 +70,19 @@ public final class P09AtTest {
         for (int k : wrong) {
             CHECKS.due("at(" + k + ")", maze.at(k), -1);
         }
+    }
+
+    /** Through all cells of the largest grid: row by row, each second one backwards. */
+    private static void theLongest() {
+        MazeForms maze = Mazes.serpent();
+        maze.path(0, 132);
+        int[] due = new int[144];
+        for (int k = 0; k < 144; k++) {
+            int row = k / 12;
+            due[k] = 12 * row + (row % 2 == 0 ? k % 12 : 11 - k % 12);
+        }
+        cellsAre("the longest path", maze, due);
+        CHECKS.due("at(145) of the longest path", maze.at(145), -1);
     }
 
     private static void theLatestCounts() {
@@ -137,6 +152,28 @@ public final class P09AtTest {
             one.make(way);
             isGone("making without doors by way " + way, one);
         }
+    }
+
+    /** "Since" the path was found latest: changes before do not matter, nor paths that were found before. */
+    private static void foundAgainAfterAChange() {
+        MazeForms maze = withPath();
+        maze.set(0, false);
+        maze.set(0, true);
+        isGone("a door closed and opened", maze);
+        maze.path(1, 0);
+        cellsAre("found again", maze, 1, 0);
+        maze.mask(2, 2, true);
+        isGone("a mask", maze);
+        maze.path(1, 0);
+        isGone("a path that there is no more", maze);
+        maze.path(1, 1);
+        cellsAre("found after a mask", maze, 1);
+        maze.make(0);
+        maze.path(1, 1);
+        cellsAre("found after making", maze, 1);
+        maze.loops(1);
+        maze.path(1, 1);
+        cellsAre("found after loops", maze, 1);
     }
 
     private static void whatChangesNothingLeavesIt() {

@@ -7,6 +7,8 @@ public final class P13GradeTest {
         besideThePath();
         onAnOpenGrid();
         nothingIsFound();
+        pathsWithoutAStep();
+        alongTheEdgeOfTheLargest();
         CHECKS.end();
     }
 
@@ -52,6 +54,25 @@ public final class P13GradeTest {
         gradeIs(maze, 4, 1, 3);
         // By 3, 4 to 5: 2 + 2 * 2.
         gradeIs(maze, 3, 5, 6);
+    }
+
+    /** "Over its cells but the last one": of one cell there is none. */
+    private static void pathsWithoutAStep() {
+        MazeForms open = new MazeForms(3, 3, 0);
+        Mazes.openAll(open);
+        gradeIs(open, 4, 4, 0);
+        gradeIs(new MazeForms(3, 3, 0), 4, 4, 0);
+        gradeIs(new MazeForms(1, 1, 0), 0, 0, 0);
+        gradeIs(Mazes.masked(0, "#"), 0, 0, -1);
+        gradeIs(Mazes.masked(0, "#."), 0, 0, -1);
+    }
+
+    private static void alongTheEdgeOfTheLargest() {
+        MazeForms maze = new MazeForms(12, 12, 0);
+        Mazes.openAll(maze);
+        // By the upper edge and the right one: one door beside each cell, but of the corner, the 12th.
+        gradeIs(maze, 0, 143, 22 * 23 / 2 - 12);
+        gradeIs(Mazes.serpent(), 0, 132, 0);
     }
 
     private static void nothingIsFound() {

@@ -56,15 +56,16 @@ public final class P14TreesTest {
     private static void bySets() {
         String[][] grids = {{"...", ".#.", "..."}, {"#..", "...", "..#"}, {"....", ".#..", "...."}, {"..", "..", ".."}};
         for (String[] rows : grids) {
-            MazeForms maze = Mazes.masked(0, rows);
+            int doors = Mazes.masked(0, rows).doors();
             int trees = 0;
-            for (int chosen = 0; chosen < 1 << maze.doors(); chosen++) {
-                for (int door = 0; door < maze.doors(); door++) {
+            for (int chosen = 0; chosen < 1 << doors; chosen++) {
+                MazeForms maze = Mazes.masked(0, rows);
+                for (int door = 0; door < doors; door++) {
                     maze.set(door, (chosen >> door & 1) == 1);
                 }
                 trees += maze.isTree() ? 1 : 0;
             }
-            treesAre("by sets of " + String.join("/", rows), maze, Integer.toString(trees));
+            treesAre("by sets of " + String.join("/", rows), Mazes.masked(0, rows), Integer.toString(trees));
         }
     }
 
