@@ -7,6 +7,8 @@ public final class P13GradeTest {
         besideThePath();
         onAnOpenGrid();
         nothingIsFound();
+        changesEndIt();
+        whatChangesNothingLeavesIt();
         pathsWithoutAStep();
         alongTheEdgeOfTheLargest();
         CHECKS.end();
@@ -94,5 +96,39 @@ public final class P13GradeTest {
         maze.mask(2, 0, true);
         CHECKS.due("grade() after a mask", maze.grade(), -1);
         gradeIs(maze, 2, 2, -1);
+    }
+
+    /** Whatever the grade was: of no step, of one, of many, with doors beside the path or without. */
+    private static void changesEndIt() {
+        int[] ends = {0, 1, 5, 15};
+        for (int to : ends) {
+            for (int change = 0; change < 4; change++) {
+                MazeForms maze = new MazeForms(4, 4, 1);
+                Mazes.openAll(maze);
+                maze.set(23, false);
+                maze.path(0, to);
+                CHECKS.due("a grade from 0 to " + to, maze.grade() >= 0, true);
+                boolean changed = change == 0 ? maze.set(23, true)
+                        : change == 1 ? maze.mask(0, 3, true)
+                        : change == 2 ? maze.loops(1) == 1
+                        : maze.make(2) == 15;
+                CHECKS.due("change " + change, changed, true);
+                CHECKS.due("grade() from 0 to " + to + " after change " + change, maze.grade(), -1);
+            }
+        }
+    }
+
+    private static void whatChangesNothingLeavesIt() {
+        MazeForms maze = new MazeForms(4, 1, 1);
+        maze.make(0);
+        gradeIs(maze, 1, 3, 1);
+        maze.loops(3);
+        maze.loops(-1);
+        maze.set(0, true);
+        maze.set(3, true);
+        maze.mask(0, 0, false);
+        maze.mask(4, 0, true);
+        maze.make(5);
+        CHECKS.due("grade() after calls that change nothing", maze.grade(), 1);
     }
 }
