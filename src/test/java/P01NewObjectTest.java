@@ -9,6 +9,7 @@ public final class P01NewObjectTest {
         whatIsAboveCountsAsTwelve();
         nothingIsMaskedOrOpen();
         seedsDecide();
+        alikeObjectsAnswerAlike();
         CHECKS.end();
     }
 
@@ -101,5 +102,39 @@ public final class P01NewObjectTest {
                 CHECKS.due("seeds " + seed + " and " + other + " make the same", alike, seed == other);
             }
         }
+    }
+
+    /** "All exact and alike for alike seeds": whatever another object is asked in between. */
+    private static void alikeObjectsAnswerAlike() {
+        for (int seed = -3; seed < 3; seed++) {
+            MazeForms alone = new MazeForms(9, 8, seed);
+            StringBuilder due = new StringBuilder();
+            for (int call = 0; call < 100; call++) {
+                due.append(answer(alone, call)).append(' ');
+            }
+            MazeForms alike = new MazeForms(9, 8, seed);
+            MazeForms other = new MazeForms(8, 9, seed + 1);
+            StringBuilder given = new StringBuilder();
+            for (int call = 0; call < 100; call++) {
+                given.append(answer(alike, call)).append(' ');
+                answer(other, call + 7);
+            }
+            CHECKS.due("answers beside another object, seed " + seed, given.toString(), due.toString());
+        }
+    }
+
+    private static Object answer(MazeForms maze, int call) {
+        return switch (call % 10) {
+            case 0 -> maze.mask(call % 8, 2, true);
+            case 1 -> maze.make(call / 10 % 5);
+            case 2 -> maze.loops(3);
+            case 3 -> maze.path(0, 71);
+            case 4 -> maze.at(5);
+            case 5 -> maze.grade();
+            case 6 -> maze.ends(1);
+            case 7 -> maze.parts();
+            case 8 -> maze.trees(call % 3);
+            default -> Mazes.picture(maze, 8, 8);
+        };
     }
 }

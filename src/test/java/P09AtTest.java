@@ -9,6 +9,7 @@ public final class P09AtTest {
         theLongest();
         theLatestCounts();
         changesEndIt();
+        twoChangesEndItToo();
         whatChangesNothingLeavesIt();
         foundAgainAfterAChange();
         CHECKS.end();
@@ -151,6 +152,27 @@ public final class P09AtTest {
             one.path(0, 0);
             one.make(way);
             isGone("making without doors by way " + way, one);
+        }
+    }
+
+    private static boolean change(MazeForms maze, int kind) {
+        return switch (kind) {
+            case 0 -> maze.set(0, false) || maze.set(0, true);
+            case 1 -> maze.mask(2, 2, true) || maze.mask(2, 2, false);
+            case 2 -> maze.loops(1) == 1;
+            default -> maze.make(0) > 0;
+        };
+    }
+
+    /** A second change, of the same kind or another, does not bring back what the first one ended. */
+    private static void twoChangesEndItToo() {
+        for (int first = 0; first < 4; first++) {
+            for (int second = 0; second < 4; second++) {
+                MazeForms maze = withPath();
+                String what = "changes of kinds " + first + " and " + second;
+                CHECKS.due(what, change(maze, first) && change(maze, second), true);
+                isGone(what, maze);
+            }
         }
     }
 
