@@ -28,6 +28,7 @@ public final class FaceTest {
         constructorAndFields(face);
         for (Class<?> inside : face.getDeclaredClasses()) {
             fieldsOf(inside);
+            insideOf(inside);
         }
         CHECKS.end();
     }
@@ -48,6 +49,26 @@ public final class FaceTest {
             CHECKS.due(field.getName() + " is private", Modifier.isPrivate(field.getModifiers()), true);
         }
         fieldsOf(face);
+    }
+
+    /** LANGUAGE.md's first rule: static, not to be seen, and no private method has the name of a public one. */
+    private static void insideOf(Class<?> type) {
+        String name = type.getSimpleName();
+        CHECKS.due(name + " is static", Modifier.isStatic(type.getModifiers()), true);
+        CHECKS.due(name + " is private", Modifier.isPrivate(type.getModifiers()), true);
+        for (Method method : type.getDeclaredMethods()) {
+            boolean hidden = Modifier.isPrivate(method.getModifiers());
+            CHECKS.due(name + "." + method.getName() + " is a private namesake", hidden && isOfTheFace(method), false);
+        }
+    }
+
+    private static boolean isOfTheFace(Method method) {
+        for (String written : FACE) {
+            if (written.split(" ")[1].equals(method.getName())) {
+                return true;
+            }
+        }
+        return false;
     }
 
     private static void fieldsOf(Class<?> type) {

@@ -63,8 +63,9 @@ public final class P09AtTest {
 
     private static void wrongPlaces() {
         MazeForms maze = new MazeForms(4, 1, 0);
+        cellsAre("before anything", maze);
         maze.make(0);
-        CHECKS.due("at(0) before any path", maze.at(0), -1);
+        cellsAre("before any path", maze);
         maze.path(3, 0);
         cellsAre("a row", maze, 3, 2, 1, 0);
         int[] wrong = {-1, 4, 5, 144, Integer.MIN_VALUE, Integer.MAX_VALUE};
@@ -92,6 +93,10 @@ public final class P09AtTest {
         maze.path(0, 3);
         maze.path(2, 1);
         cellsAre("the second path", maze, 2, 1);
+        maze.path(3, 0);
+        cellsAre("the third path", maze, 3, 2, 1, 0);
+        maze.path(1, 3);
+        cellsAre("the fourth path", maze, 1, 2, 3);
         maze.path(0, 7);
         cellsAre("after none was found", maze);
     }

@@ -7,6 +7,7 @@ public final class P14TreesTest {
 
     public static void main(String[] args) {
         fewTrees();
+        noneWhereCellsLieApart();
         manyTrees();
         bySets();
         residuesInBetweenMayBeZero();
@@ -36,6 +37,22 @@ public final class P14TreesTest {
         treesAre("two squares apart", Mazes.masked(0, "..#..", "..#.."), "0");
         treesAre("a lone first cell", Mazes.masked(0, ".#.", "#..", "..."), "0");
         treesAre("a lone last cell", Mazes.masked(0, "...", "..#", ".#."), "0");
+    }
+
+    /** Each set of masks of 3 x 4: with all doors open there is more than one part, or there are trees. */
+    private static void noneWhereCellsLieApart() {
+        for (int chosen = 0; chosen < 1 << 12; chosen++) {
+            MazeForms maze = new MazeForms(3, 4, 0);
+            for (int cell = 0; cell < 12; cell++) {
+                maze.mask(cell % 3, cell / 3, (chosen >> cell & 1) == 1);
+            }
+            maze.loops(200);
+            boolean joined = maze.parts() <= 1;
+            for (int prime = 0; prime < 3; prime++) {
+                String what = "trees(" + prime + ") is above 0, masks " + Integer.toBinaryString(chosen);
+                CHECKS.due(what, maze.trees(prime) > 0, joined);
+            }
+        }
     }
 
     /** The numbers of trees of square grids are well known (OEIS A007341). */
